@@ -31,6 +31,8 @@ public final class SparkBoards {
     private static final int[] RIGHT = {1, 1, 0, -1, -1, -1, 0, 1};
     private static final int[] DOWN = {0, 1, 1, 1, 0, -1, -1, -1};
 
+    private static final int LEAST_RING = 3;
+
     private static final int STAMPS = 4;
     private static final int TURNS = 4;
     private static final int STAMP_SIDE = 3;
@@ -119,7 +121,7 @@ public final class SparkBoards {
     }
 
     public int ring(int x, int y, int w, int h) throws IllegalArgumentException, IndexOutOfBoundsException {
-        if (w < LEAST_SIDE || h < LEAST_SIDE) {
+        if (w < LEAST_RING || h < LEAST_RING) {
             throw new IllegalArgumentException("a ring has 3 columns and rows at least");
         }
         if (!board.holds(x, y, w, h)) {

@@ -12,6 +12,7 @@ public final class P07SparkTest {
         SparkBoards x = Check.drawn("cccc", "....", "cccc");
         Check.due("one spark", x.spark(3, 0, 0), 1);
         Check.due("another spark", x.spark(0, 2, 4), 2);
+        Check.due("heads are counted, not tails", Check.drawn("ccH", "..H", "H..").spark(1, 0, 0), 4);
         refuses();
         Check.end();
     }

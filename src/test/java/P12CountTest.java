@@ -9,6 +9,7 @@ public final class P12CountTest {
         dueCounts(x, 2, 7, 4, 11, 1, 1, 5, 5, 3, 2);
         x.set(5, 1, 1);
         dueCounts(x, 2, 7, 4, 12, 1, 1, 2, 11, 3, 2);
+        dueCounts(Check.drawn("HHt", "HHt", "tcH"), 0, 3, 3, 1, 5, 3, 1, 9, 0, 0);
         diagonalsJoin();
         int[] wrong = {-1, 10, Integer.MAX_VALUE, Integer.MIN_VALUE};
         for (int what : wrong) {
@@ -22,6 +23,8 @@ public final class P12CountTest {
         dueCounts(x, 0, 5, 3, 8, 0, 0, 1, 8, 0, 0);
         x = Check.drawn("c.c.c", ".....", "c.c.c");
         dueCounts(x, 0, 5, 3, 6, 0, 0, 6, 1, 0, 0);
+        x = Check.drawn("c..", "...", "c..");
+        dueCounts(x, 0, 3, 3, 2, 0, 0, 2, 1, 0, 0);
         // The last cell of a row and the first of the next one are no neighbours.
         x = Check.drawn("....c", "c....", "....c");
         dueCounts(x, 0, 5, 3, 3, 0, 0, 3, 1, 0, 0);

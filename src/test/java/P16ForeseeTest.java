@@ -18,6 +18,7 @@ public final class P16ForeseeTest {
         Check.due("100 steps on", ring.count(9), 32);
         dueForeseen(ring, 1, 4, 1, 1, 34);
         Check.unchanged(ring, "foresee(7, 9)", () -> ring.foresee(7, 9));
+        lamps();
         refuses(x);
         Check.end();
     }
@@ -27,6 +28,15 @@ public final class P16ForeseeTest {
         Check.due("foresee(" + steps + ", 4)", x.foresee(steps, 4), heads);
         Check.due("foresee(" + steps + ", 5)", x.foresee(steps, 5), tails);
         Check.due("foresee(" + steps + ", 9)", x.foresee(steps, 9), lit);
+    }
+
+    private static void lamps() {
+        SparkBoards x = Check.drawn("cHt", "...", "...");
+        Check.due("without any lamp", x.foresee(1, 9), 0);
+        for (int lamp = 1; lamp <= 5; lamp++) {
+            x.lamp(0, 0);
+            Check.due("lamps: " + lamp, x.foresee(1, 9), lamp);
+        }
     }
 
     private static void refuses(SparkBoards x) {

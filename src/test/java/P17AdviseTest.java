@@ -5,6 +5,8 @@ public final class P17AdviseTest {
         for (int steps = 1; steps <= 4; steps++) {
             Check.due("a line, advise(" + steps + ")", line.advise(steps), 8);
         }
+        Check.due("the first cell", Check.drawn("cHt", "...", "...").advise(1), 0);
+        Check.due("the last cell", Check.drawn("...", "...", "tHc").advise(1), 8);
         fewest();
         none();
         SparkBoards x = Check.drawn("tHccc", "..c..", "cc.cc");
