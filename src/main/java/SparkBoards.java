@@ -586,7 +586,11 @@ public final class SparkBoards {
         int far(Board board, int x, int y, int to) {
             forget();
             reach(board, x, y);
-            return to >= 0 && to < MOST_CELLS ? far[to] : NOT_REACHED;
+            return wayTo(to);
+        }
+
+        private int wayTo(int cell) {
+            return cell >= 0 && cell < MOST_CELLS ? far[cell] : NOT_REACHED;
         }
 
         private void forget() {
@@ -596,8 +600,8 @@ public final class SparkBoards {
         // Answers how many cells are new, so that a piece counts once until all is forgotten.
         private int reach(Board board, int x, int y) {
             int many = visit(board, x, y, 0, 0);
-            for (int i = 0; i < many; i++) {
-                int next = far[board.cell(reachedX[i], reachedY[i])] + 1;
+            for (int i = 0; i < many && i < MOST_CELLS; i++) {
+                int next = wayTo(board.cell(reachedX[i], reachedY[i])) + 1;
                 for (int direction = 0; direction < DIRECTIONS; direction++) {
                     many = visit(board, reachedX[i] + RIGHT[direction], reachedY[i] + DOWN[direction], next, many);
                 }

@@ -6,6 +6,12 @@ final class Check {
         long answer();
     }
 
+    static final Class<IllegalArgumentException> ARGUMENT = IllegalArgumentException.class;
+    static final Class<IndexOutOfBoundsException> INDEX = IndexOutOfBoundsException.class;
+    static final Class<IllegalStateException> STATE = IllegalStateException.class;
+    private static final int LEAST = Integer.MIN_VALUE;
+    private static final int MOST = Integer.MAX_VALUE;
+
     private static int asked = 0;
     private static int wrong = 0;
 
@@ -63,6 +69,31 @@ final class Check {
                 x.set(column, row, ".cHt".indexOf(rows[row].charAt(column)));
             }
         }
+    }
+
+    /** A new object with all cells of one kind. */
+    static SparkBoards full(int w, int h, char kind) {
+        String[] rows = new String[h];
+        Arrays.fill(rows, String.valueOf(kind).repeat(w));
+        return drawn(rows);
+    }
+
+    /** Pairs that are no cell of a board of w columns and h rows, the nearest ones and ones far off. */
+    static int[][] beyond(int w, int h) {
+        // The last ones would get the number of a cell, if w * y + x were all that is looked at.
+        return new int[][] {{-1, 0}, {w, 0}, {0, -1}, {0, h}, {-1, h - 1}, {w, h - 1}, {w - 1, -1}, {w - 1, h},
+            {-1, -1}, {w, h}, {LEAST, 0}, {MOST, 0}, {0, LEAST}, {0, MOST}, {LEAST, LEAST}, {MOST, MOST}, {LEAST, MOST},
+            {-1, 1}, {-w, 1}, {w + 1, 0}, {2 * w, -1}, {0, 1 << 30}, {0, 1 << 31}, {0, 1 << 29}};
+    }
+
+    /** The four cells that are the last ones of a board of w columns and h rows. */
+    static int[][] corners(int w, int h) {
+        return new int[][] {{0, 0}, {w - 1, 0}, {0, h - 1}, {w - 1, h - 1}};
+    }
+
+    /** Sides of boards: the smallest and the largest in each direction, the first of all, and one between. */
+    static int[][] sides() {
+        return new int[][] {{3, 3}, {3, 10}, {10, 3}, {10, 10}, {8, 6}, {5, 7}};
     }
 
     static String[] picture(SparkBoards x) {

@@ -18,14 +18,14 @@ public final class ModelTest {
         state = start;
     }
 
-    public static void main(String[] args) throws IllegalAccessException {
+    public static void main(String[] args) {
         for (int run = 0; run < RUNS; run++) {
             new ModelTest(run * 7919L + 1).run(run);
         }
         Check.end();
     }
 
-    private void run(int run) throws IllegalAccessException {
+    private void run(int run) {
         SparkBoards x = new SparkBoards();
         Model model = new Model();
         for (int i = 0; i < CALLS; i++) {
@@ -87,11 +87,13 @@ public final class ModelTest {
         arguments[next(arguments.length)] = others[next(others.length)];
     }
 
-    private static String answer(Object x, String name, int[] arguments) throws IllegalAccessException {
+    static String answer(Object x, String name, int[] arguments) {
         try {
             return String.valueOf(method(x, name).invoke(x, Arrays.stream(arguments).boxed().toArray()));
         } catch (InvocationTargetException e) {
             return e.getCause().getClass().getName();
+        } catch (IllegalAccessException e) {
+            throw new AssertionError(e);
         }
     }
 
