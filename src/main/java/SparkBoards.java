@@ -453,13 +453,18 @@ public final class SparkBoards {
             return cell(x, y) != NO_CELL && w <= columns - x && h <= rows - y;
         }
 
+        // Whether rows of MOST_CELLS have a place for it: NO_CELL has none.
+        static boolean hasPlace(int cell) {
+            return cell >= 0 && cell < MOST_CELLS;
+        }
+
         // NO_CELL may be asked for too: what lies beyond the edge is empty.
         int kind(int cell) {
-            return cell >= 0 && cell < MOST_CELLS ? kinds[cell] : EMPTY;
+            return hasPlace(cell) ? kinds[cell] : EMPTY;
         }
 
         void put(int cell, int kind) {
-            if (cell >= 0 && cell < MOST_CELLS) {
+            if (hasPlace(cell)) {
                 kinds[cell] = kind;
             }
         }
@@ -513,7 +518,8 @@ public final class SparkBoards {
 
         void step() {
             countHeadsBeside();
-            for (int i = 0; i < size(); i++) {
+            // Places behind the board's last cell are empty, and stay so.
+            for (int i = 0; i < MOST_CELLS; i++) {
                 kinds[i] = next(kinds[i], headsBeside[i]);
             }
         }
@@ -533,7 +539,7 @@ public final class SparkBoards {
         private void tellNeighbours(int x, int y) {
             for (int direction = 0; direction < DIRECTIONS; direction++) {
                 int cell = neighbour(x, y, direction);
-                if (cell != NO_CELL) {
+                if (hasPlace(cell)) {
                     headsBeside[cell]++;
                 }
             }
@@ -590,7 +596,7 @@ public final class SparkBoards {
         }
 
         private int wayTo(int cell) {
-            return cell >= 0 && cell < MOST_CELLS ? far[cell] : NOT_REACHED;
+            return Board.hasPlace(cell) ? far[cell] : NOT_REACHED;
         }
 
         private void forget() {
@@ -611,7 +617,10 @@ public final class SparkBoards {
 
         private int visit(Board board, int x, int y, int way, int many) {
             int cell = board.cell(x, y);
-            if (board.kind(cell) == EMPTY || far[cell] != NOT_REACHED || many >= MOST_CELLS) {
+            if (!Board.hasPlace(cell) || many >= MOST_CELLS) {
+                return many;
+            }
+            if (board.kind(cell) == EMPTY || far[cell] != NOT_REACHED) {
                 return many;
             }
             far[cell] = way;
